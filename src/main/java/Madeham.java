@@ -573,7 +573,7 @@ public final class Madeham {
     /** The places, their links and their ways; pairs are kept as rows of five. */
     static final class Places {
         private final int[] minutes = new int[MOST_PLACES * MOST_PLACES];
-        private final int[] ways = new int[MOST_PLACES * MOST_PLACES];
+        final int[] ways = new int[MOST_PLACES * MOST_PLACES];
         int count;
 
         Places() {

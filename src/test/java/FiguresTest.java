@@ -55,6 +55,7 @@ public final class FiguresTest {
         Due.is("39 ten by three", 10.0 / 3.0, town::meanWay);
         town.setWork(2, 2);
         Due.is("39 with none", 1009.0 / 3.0, town::meanWay);
+        Due.is("39 twenty", 0.0, Towns.ofOnePlace(20)::meanWay);
     }
 
     private static void isSound() {

@@ -90,6 +90,11 @@ public final class PlacesPeopleTest {
         town.link(1, 4, 10);
         Due.is("4 over two others", 70, () -> town.way(0, 4));
         Due.is("4 two links are shorter than one", 59, () -> town.way(1, 2));
+        town.link(0, 1, 1);
+        Due.is("4 a link of one", 1, () -> town.way(0, 1));
+        town.link(0, 3, 5);
+        Due.is("4 by the place 0", 6, () -> town.way(1, 3));
+        town.link(0, 3, 0);
         town.link(1, 4, 0);
         Due.is("4 taken away", 99, () -> town.way(0, 4));
         Due.is("4 no place", Due.BOUNDS, () -> town.way(5, 0));
@@ -273,6 +278,7 @@ public final class PlacesPeopleTest {
         Due.is("12 both ways", true, () -> town.tie(19, 0, true));
         Due.is("12 taken away", true, () -> town.tie(19, 0, false));
         Due.is("12 gone both ways", false, () -> town.tie(0, 19, false));
+        Due.is("12 gone for the first one", false, () -> town.tie(19, 0, false));
         Due.is("12 nobody", Due.BOUNDS, () -> town.tie(20, 0, true));
         Due.is("12 no other", Due.BOUNDS, () -> town.tie(0, 20, true));
         Due.is("12 below", Due.BOUNDS, () -> town.tie(-1, -1, true));

@@ -13,6 +13,7 @@ public final class ThoughtTest {
         differs();
         least();
         hash();
+        hashOfHomes();
         changesNothing();
         Due.end();
     }
@@ -162,6 +163,10 @@ public final class ThoughtTest {
         none.addRule('a', 0, 0, 0, 1, 100);
         Due.is("31 people ahead of figures", Due.UNSUPPORTED, () -> none.fit(0));
         Due.is("31 rule first", Due.BOUNDS, () -> none.fit(1));
+        Madeham low = Towns.with(99);
+        low.addRule('a', 0, 0, 0, 1, 100);
+        low.tell(2, 8300, false);
+        Due.is("31 the second of all", -8, () -> low.fit(0));
         Madeham most = Towns.with(0);
         most.addRule('a', 0, 0, 0, 1, 100);
         most.tell(2, 9900, false);
@@ -233,6 +238,10 @@ public final class ThoughtTest {
         town.pass(28);
         Due.is("34 the first day", 100, () -> town.differs(0));
         // 45 is 51 on the day 3
+        town.reset();
+        town.pass(3);
+        Due.is("34 on the last day", 301, () -> town.differs(1));
+        town.pass(27);
         Due.is("34 the third day, in the last trait", 301, () -> town.differs(1));
         Due.is("34 no rule", Due.BOUNDS, () -> town.differs(2));
         Due.is("34 below", Due.BOUNDS, () -> town.differs(-1));
@@ -303,6 +312,18 @@ public final class ThoughtTest {
         parts[21] = 9;
         town.pass(5);
         Due.is("36 traits as the first day began", folded(parts), town::hash);
+    }
+
+    private static void hashOfHomes() {
+        Madeham town = new Madeham();
+        town.addPlace();
+        town.addPlace();
+        town.setGroup(1, 1);
+        town.setHomes(1, 1);
+        town.make();
+        town.setWork(0, 1);
+        int[] parts = {0, 1, 1, town.trait(0, 0), town.trait(0, 1), town.trait(0, 2), town.trait(0, 3), 0, 't', 1};
+        Due.is("36 a home", folded(parts), town::hash);
     }
 
     private static long folded(int[] parts) {
