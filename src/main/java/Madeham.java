@@ -576,10 +576,6 @@ public final class Madeham {
         final int[] ways = new int[MOST_PLACES * MOST_PLACES];
         int count;
 
-        Places() {
-            count = 0;
-        }
-
         int append() {
             int place = count;
             count++;
@@ -663,10 +659,6 @@ public final class Madeham {
         /** A bit for each person with whom there is a tie. */
         final int[] tied = new int[MOST_PEOPLE];
         int count;
-
-        People() {
-            count = 0;
-        }
 
         boolean marginsFit() {
             int sum = sumOver(groupMargin);
@@ -864,10 +856,6 @@ public final class Madeham {
         private final int[] means = new int[MOST_FIGURES];
         private final boolean[] tests = new boolean[MOST_FIGURES];
         int count;
-
-        Figures() {
-            count = 0;
-        }
 
         int append(int day, int seen, boolean isTest) {
             days[count] = day;
