@@ -78,7 +78,8 @@ public final class FaceTest {
         for (Field field : Madeham.class.getDeclaredFields()) {
             int modifiers = field.getModifiers();
             Due.same("private field " + field.getName(), true, Modifier.isPrivate(modifiers));
-            Due.same("final field " + field.getName(), true, Modifier.isFinal(modifiers));
+            boolean isFree = !Modifier.isStatic(modifiers) || Modifier.isFinal(modifiers);
+            Due.same("static field " + field.getName() + " is final", true, isFree);
         }
         for (Class<?> inside : Madeham.class.getDeclaredClasses()) {
             int modifiers = inside.getModifiers();

