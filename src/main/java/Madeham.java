@@ -888,7 +888,7 @@ public final class Madeham {
         }
     }
 
-    /** A run of days by what is told, that of the town itself or one in thought. */
+    /** A run of days by what is told, that of the town itself or one in thought; begin() comes ahead of goOn(). */
     static final class Run {
         private final Places places;
         private final People people;
@@ -906,9 +906,6 @@ public final class Madeham {
             this.places = places;
             this.people = people;
             this.rules = rules;
-            changedRule = NONE;
-            sparedRule = NONE;
-            sparedPerson = NONE;
         }
 
         /** Goes back to the first day, by all that is told now. */
@@ -918,7 +915,6 @@ public final class Madeham {
             onBits = rules.onBits;
             changedRule = NONE;
             sparedRule = NONE;
-            sparedPerson = NONE;
         }
 
         void leaveOut(int rule) {

@@ -187,6 +187,8 @@ public final class FitEdgesTest {
         }, town -> town.fit(5));
         Edges.says("Returns the amount.");
         Edges.answers("the least", -9, () -> seeing(4100), town -> town.fit(0));
+        Edges.answers("the one above the least", -8, () -> seeing(4200), town -> town.fit(0));
+        Edges.answers("the one below the most", 8, () -> seeing(5800), town -> town.fit(0));
         Edges.answers("what would be less", -9, () -> seeing(0), town -> town.fit(0));
         Edges.answers("the most", 9, () -> seeing(5900), town -> town.fit(0));
         Edges.answers("what would be more", 9, () -> seeing(9900), town -> town.fit(0));

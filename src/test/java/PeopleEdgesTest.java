@@ -286,6 +286,14 @@ public final class PeopleEdgesTest {
             town.tie(19, 0, false);
             return town.tie(0, 19, true);
         });
+        Edges.answers("they have none, asked the same way", false, FULL, town -> {
+            town.tie(19, 0, false);
+            return town.tie(19, 0, false);
+        });
+        Edges.answers("taken away from the first on", false, FULL, town -> {
+            town.tie(0, 19, false);
+            return town.tie(0, 19, true);
+        });
         Edges.answers("others stay", true, ORDINARY, town -> {
             town.tie(0, 1, false);
             return town.tie(4, 1, false);

@@ -20,6 +20,7 @@ public final class SoundPartsTest {
             ways();
             traits();
             runs();
+            spoiltTowns();
         } else {
             System.out.println("the class has no parts of these names");
         }
@@ -130,5 +131,34 @@ public final class SoundPartsTest {
         int last = ((int[]) field(other, "traits").get(other))[15];
         put(other, "traits", 15, last + 1);
         Due.same("40 unlike in the last trait", 3, call(run, "firstUnlike", other));
+    }
+
+    /** What the town of a full size holds in this field. */
+    private static Object held(Madeham town, String name) throws Exception {
+        Field field = Madeham.class.getDeclaredField(name);
+        field.setAccessible(true);
+        return field.get(town);
+    }
+
+    private static void spoiltTowns() throws Exception {
+        spoilt("people", "groups", 19, 0);
+        spoilt("people", "homes", 0, 4);
+        spoilt("people", "tied", 5, 1 << 9);
+        spoilt("people", "firstTraits", 79, 0);
+        spoilt("places", "ways", 3, 181);
+        spoilt("now", "traits", 0, 100);
+        spoilt("now", "traits", 79, -1);
+        Madeham town = Towns.ended();
+        Object now = held(town, "now");
+        int value = ((int[]) field(now, "traits").get(now))[40];
+        put(now, "traits", 40, value == 50 ? 51 : 50);
+        Due.is("40 a trait that no run has", false, town::isSound);
+    }
+
+    private static void spoilt(String part, String row, int at, int value) throws Exception {
+        Madeham town = Towns.ended();
+        Due.is("40 sound at first", true, town::isSound);
+        put(held(town, part), row, at, value);
+        Due.is("40 " + row + " of " + part + " are spoilt", false, town::isSound);
     }
 }

@@ -85,6 +85,15 @@ public final class SumEdgesTest {
         Edges.same("it goes round", true, Edges.goesRound(7, parts));
         Edges.answers("the full town", Edges.folded(7, parts), FULL, Madeham::hash);
         Edges.answers("the full town behind all days", Edges.folded(7, parts), ENDED, Madeham::hash);
+        for (int rule = 0; rule < 6; rule++) {
+            int which = rule;
+            parts.set(10 + 7 * 20 + 7 * rule + 6, 0);
+            Edges.answers("a rule that is off", Edges.folded(7, parts), FULL, town -> {
+                town.setOn(which, false);
+                return town.hash();
+            });
+            parts.set(10 + 7 * 20 + 7 * rule + 6, 1);
+        }
         for (int person = 0; person < 20; person++) {
             parts.set(10 + 7 * person + 6, (1 << 20) - 1 - (1 << person));
         }

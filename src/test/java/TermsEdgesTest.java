@@ -24,6 +24,22 @@ public final class TermsEdgesTest {
         TermsOfThought.causes();
         TermsOfThought.exceptions();
         Edges.allSaid();
+        lastCall();
         Due.end();
+    }
+
+    /** "An object is used for at most 512 calls after it has been made": the last of them is answered like any other. */
+    private static void lastCall() {
+        Madeham town = Towns.with(10);
+        town.addRule('a', 0, 0, 0, 1, 100);
+        // addPlace, setGroup, setHomes, make, setTrait and addRule were the first six
+        int days = 0;
+        for (int call = 7; call < 512; call++) {
+            boolean isReset = call % 5 == 0;
+            int due = isReset ? days : days + 1;
+            Due.is("call " + call, due, isReset ? town::reset : () -> town.pass(1));
+            days = isReset ? 0 : due;
+        }
+        Due.is("the 512th call", 11, () -> town.trait(0, 0));
     }
 }

@@ -264,6 +264,19 @@ final class TermsOfRules {
         return town;
     }
 
+    /** The trait 3 of the last two of twenty, who have a tie, behind a day by a rule 'a' and then a rule 'i'. */
+    private static String lastPair(char mode) {
+        Madeham town = Towns.with(new int[20]);
+        town.setMode(mode);
+        town.setTrait(18, 3, 10);
+        town.setTrait(19, 3, 14);
+        town.tie(19, 18, true);
+        town.addRule('a', 3, 0, 0, 3, 100);
+        town.addRule('i', 3, 2, 0, 9, 100);
+        town.pass(1);
+        return town.trait(18, 3) + " " + town.trait(19, 3);
+    }
+
     private static String both(Madeham town) {
         return Towns.values(town, 2);
     }
@@ -281,6 +294,7 @@ final class TermsOfRules {
     static void modes() {
         Edges.says("In the mode 't', in turn, each sees what was done ahead of it.");
         Edges.answers("what other people became", "14 14", () -> pair('t', 10, 14, 3, 9), TermsOfRules::both);
+        Edges.same("what the last of twenty became", "14 14", lastPair('t'));
         Edges.same("the guard reaches the limit", 20, guarded('t', 10, 3, 13));
         Edges.same("the guard does not reach it", 13, guarded('t', 10, 3, 14));
         Edges.same("the guard falls to the limit", 14, guarded('t', 10, -3, 7));
@@ -289,6 +303,7 @@ final class TermsOfRules {
                 + " that it changes becomes is told from how that is by then.");
         // 10+3=13 to 14; 14+3=17 toward 10 by 9: 10
         Edges.answers("what other people were", "14 10", () -> pair('a', 10, 14, 3, 9), TermsOfRules::both);
+        Edges.same("what the last of twenty were", "14 10", lastPair('a'));
         Edges.same("the guard was the limit", 14, guarded('a', 10, -3, 10));
         Edges.same("the guard was one below", 13, guarded('a', 10, 3, 11));
         Edges.same("both add", 20, guarded('a', 10, 3, 10));
