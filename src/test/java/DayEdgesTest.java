@@ -1,3 +1,5 @@
+import java.util.Arrays;
+
 /** The boundary cases of the promises 20 to 26: days, means and surveys. */
 public final class DayEdgesTest {
     private static final Edges.Town EMPTY = Towns::empty;
@@ -178,7 +180,7 @@ public final class DayEdgesTest {
 
     private static Madeham withTwentyAtMost() {
         int[] values = new int[20];
-        java.util.Arrays.fill(values, 99);
+        Arrays.fill(values, 99);
         return Towns.with(values);
     }
 

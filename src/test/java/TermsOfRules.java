@@ -1,3 +1,5 @@
+import java.util.Arrays;
+
 /** The sentences of "Terms" on rules, days and means. */
 final class TermsOfRules {
     private static final Edges.Town EMPTY = Towns::empty;
@@ -182,7 +184,7 @@ final class TermsOfRules {
             return town.trait(0, 0);
         });
         int[] many = new int[20];
-        java.util.Arrays.fill(many, 60);
+        Arrays.fill(many, 60);
         many[0] = 55;
         many[19] = 59;
         influenced("nineteen ties", 59, 9, many);
@@ -385,7 +387,7 @@ final class TermsOfRules {
         int[][] cases = {{0, 0}, {9900, 99}, {50, 0, 1}, {33, 0, 0, 1}, {66, 0, 1, 1}, {14, 0, 0, 0, 0, 0, 0, 1},
             {9885, 98, 99, 99, 99, 99, 99, 99}};
         for (int[] of : cases) {
-            int[] values = java.util.Arrays.copyOfRange(of, 1, of.length);
+            int[] values = Arrays.copyOfRange(of, 1, of.length);
             Edges.answers("of all", of[0], () -> Towns.with(values), town -> town.mean(0));
             Edges.answers("of a group", of[0], () -> Towns.with(values), town -> town.groupMean(0, 0));
             Edges.answers("of those who answer", of[0], () -> Towns.with(values), town -> town.survey(0, 1, 0));
