@@ -1,3 +1,5 @@
+import java.lang.reflect.Field;
+import java.lang.reflect.Modifier;
 import java.nio.charset.StandardCharsets;
 import java.nio.file.Files;
 import java.nio.file.Path;
@@ -14,6 +16,9 @@ public final class LanguageTest {
             "import java.util.ArrayList;", "import java.util.List;", "import java.util.Arrays;",
             "import java.util.Iterator;");
     private static final Set<String> NUMBERS = Set.of("Integer", "Long", "Math");
+    private static final Set<String> EXCEPTIONS = Set.of("IllegalStateException", "IllegalArgumentException",
+            "IndexOutOfBoundsException", "ArithmeticException", "UnsupportedOperationException",
+            "NoSuchElementException", "RuntimeException");
     private static final String[] NEVER = {"::", "finally", "synchronized", "assert ", "Exact(", "package ", "protected ",
         "static {", "getMessage", "NaN", "System.out", "System.nano", "System.current", "Random", "Thread"};
 
@@ -30,6 +35,11 @@ public final class LanguageTest {
         statics(lines);
         methods(lines);
         parameters(text);
+        exceptions(text);
+        joinedTexts(lines);
+        loops(text);
+        objects(text);
+        classes();
         Due.end();
     }
 
@@ -91,5 +101,64 @@ public final class LanguageTest {
             Due.same("rule 11: " + list.group(), true, list.group(1).split(",").length <= 7);
         }
         Due.same("methods are found", true, methods >= 40);
+    }
+
+    private static void exceptions(String text) {
+        Matcher thrown = Pattern.compile("\\bthrow\\b( new (\\w+)\\()?").matcher(text);
+        while (thrown.find()) {
+            boolean isAllowed = thrown.group(2) != null && EXCEPTIONS.contains(thrown.group(2));
+            Due.same("rule 6: " + thrown.group(), true, isAllowed);
+        }
+        Due.same("rule 6: nothing is caught", -1, text.indexOf("catch"));
+    }
+
+    private static void joinedTexts(List<String> lines) {
+        for (String line : lines) {
+            Due.same("rule 10: " + line, false, line.contains("\" +") || line.contains("+ \""));
+        }
+    }
+
+    /** Each loop is one with a counter against a bound, or over a row. */
+    private static void loops(String text) {
+        Due.same("rule 9: no while", false, Pattern.compile("\\b(while|do)\\b").matcher(text).find());
+        Matcher loop = Pattern.compile("\\bfor \\(([^\n]*)\\) \\{").matcher(text);
+        String counted = "int (\\w+) = [^;]+; [^;]*\\b\\1 <=? [^;]+; \\1(\\+\\+| \\+= \\w+)";
+        while (loop.find()) {
+            String head = loop.group(1);
+            Due.same("rule 9: " + head, true, head.contains(" : ") || head.matches(counted));
+        }
+    }
+
+    /** Rows and parts are made with the town, so that no call makes an object but an exception. */
+    private static void objects(String text) {
+        for (String line : text.split("\n")) {
+            if (line.contains("new ")) {
+                boolean isMadeOnce = line.matches(".* final [\\w\\[\\]]+ \\w+ = new \\w+\\[.*\\];")
+                        || line.matches(" {8}\\w+ = new \\w+\\(.*\\);");
+                Due.same("rule 12: " + line, true, isMadeOnce || line.contains("throw new "));
+            }
+        }
+    }
+
+    private static void classes() {
+        Class<?>[] inside = Madeham.class.getDeclaredClasses();
+        Due.same("rule 11: classes", true, inside.length < 12);
+        fields(Madeham.class);
+        for (Class<?> part : inside) {
+            fields(part);
+        }
+    }
+
+    private static void fields(Class<?> part) {
+        int fields = 0;
+        for (Field field : part.getDeclaredFields()) {
+            if (!Modifier.isStatic(field.getModifiers())) {
+                fields++;
+                Class<?> type = field.getType().isArray() ? field.getType().getComponentType() : field.getType();
+                boolean isOwn = type.getName().startsWith("Madeham$");
+                Due.same("rule 3: " + field, true, type.isPrimitive() || isOwn);
+            }
+        }
+        Due.same("rule 11: fields of " + part.getName(), true, fields <= 20);
     }
 }

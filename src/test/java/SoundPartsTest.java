@@ -100,8 +100,10 @@ public final class SoundPartsTest {
         put(places, "ways", 2, 12);
         isDue("a way is too long", false, places, "waysAreShortest");
         put(places, "ways", 2, 11);
-        put(places, "ways", 6, 12);
+        put(places, "ways", 2 * 5, 12);
         isDue("the way back is too long", false, places, "waysAreShortest");
+        put(places, "ways", 2 * 5, 11);
+        isDue("shortest again", true, places, "waysAreShortest");
     }
 
     private static Object run(Object people) throws Exception {
